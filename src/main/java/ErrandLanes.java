@@ -258,10 +258,9 @@ public final class ErrandLanes {
     int soonest = NONE;
     int by = NONE;
     for (int set = 0; set < now.sets(); set++) {
-      if (now.canSetOut(set)) {
+      if (trialBeginsBy(set)) {
         // A later set is better only where it is sooner, so no more need be tried.
         int most = soonest == NONE ? MOST_AHEAD : soonest - 1;
-        trySetOut(set);
         int n = trial.halvesUntil(all, most);
         if (n != NONE) {
           soonest = n;
@@ -280,8 +279,7 @@ public final class ErrandLanes {
     }
     fits.clear();
     for (int set = 0; set < now.sets(); set++) {
-      if (now.canSetOut(set)) {
-        trySetOut(set);
+      if (trialBeginsBy(set)) {
         if ((trial.holdersAhead(errand, n) & people) == 0) {
           fits.add(set);
         }
@@ -298,8 +296,7 @@ public final class ErrandLanes {
     int above = 0;
     int below = 0;
     for (int set = 0; set < now.sets(); set++) {
-      if (now.canSetOut(set)) {
-        trySetOut(set);
+      if (trialBeginsBy(set)) {
         above += Integer.bitCount(trial.holdersAhead(errand, n));
         below++;
       }
@@ -331,8 +328,7 @@ public final class ErrandLanes {
     }
     fits.clear();
     for (int set = 0; set < now.sets(); set++) {
-      if (now.canSetOut(set)) {
-        trySetOut(set);
+      if (trialBeginsBy(set)) {
         trial.goHalves(n);
         if (trial.isCarriedAs(r)) {
           fits.add(set);
@@ -452,9 +448,14 @@ public final class ErrandLanes {
     return n;
   }
 
-  private void trySetOut(int set) {
+  /** Whether people can set out by a set; if so, the trial is as they do it now. */
+  private boolean trialBeginsBy(int set) {
+    if (!now.canSetOut(set)) {
+      return false;
+    }
     trial.become(now);
     trial.setOut(set);
+    return true;
   }
 
   private static boolean isOf(int kind, int wanted) {
