@@ -949,7 +949,7 @@ public final class ErrandLanes {
         at++;
       }
       first = at;
-      if (at == tape.length) {
+      if (at >= tape.length) {
         type = END;
       } else if (isLetter(tape.bytes[at])) {
         type = NAME;
@@ -957,20 +957,16 @@ public final class ErrandLanes {
           at++;
         }
       } else if (isFigure(tape.bytes[at])) {
-        nextNumber();
+        value = 0;
+        while (at < tape.length && isFigure(tape.bytes[at])) {
+          value = 10 * value + (tape.bytes[at] - '0');
+          at++;
+        }
+        type = at - first <= LONGEST_NUMBER ? NUMBER : NO_TOKEN;
       } else {
         type = tape.bytes[at] == ';' ? SIGN : NO_TOKEN;
         at++;
       }
-    }
-
-    void nextNumber() {
-      value = 0;
-      while (at < tape.length && isFigure(tape.bytes[at])) {
-        value = 10 * value + (tape.bytes[at] - '0');
-        at++;
-      }
-      type = at - first <= LONGEST_NUMBER ? NUMBER : NO_TOKEN;
     }
 
     boolean isWord(String word) {

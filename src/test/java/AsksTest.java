@@ -17,6 +17,7 @@ public final class AsksTest {
     C.end();
   }
 
+  /** Promise 22, "The KIND of one, as told (1 to 5). BAD." */
   private static void kinds() {
     ErrandLanes x = Checks.on(ALL);
     int[] kinds = {1, 2, 3, 4, 5};
@@ -27,6 +28,7 @@ public final class AsksTest {
     C.due("kind(5)", x.kind(5), Checks.BAD);
   }
 
+  /** Promise 23, "BAD; KIND: he is no such one." */
   private static void taken() {
     ErrandLanes x = Checks.on(ALL);
     for (int p = 0; p < 5; p++) {
@@ -57,6 +59,7 @@ public final class AsksTest {
     }
   }
 
+  /** Terms 4, "0 SIZE"; "14 of COWS: twice what 13 gives (asked once)." */
   private static void sizes() {
     ErrandLanes x = Checks.on(ALL);
     asked(x, 0, 0, 6, 11, 10, 21, 20);
@@ -66,6 +69,7 @@ public final class AsksTest {
     asked(x, 4, 0, 2 * (14 - 100), 14, 13, 10);
   }
 
+  /** Terms 4, "1 MARK"; "24 of BOYS: twice what 21 gives (asked once)." */
   private static void marks() {
     ErrandLanes x = Checks.on(ALL);
     asked(x, 0, 1, 0, 21, 20);
@@ -75,6 +79,7 @@ public final class AsksTest {
     asked(x, 4, 1, 4 - 2 * (14 - 100), 23, 20, 14, 13, 10);
   }
 
+  /** Terms 4, "SIZE, MARK within others are asked of the same one anew." */
   private static void asTheyAreNow() {
     ErrandLanes x = Checks.on("path 4 0;person monk 2 0 0;person fat 4 1 8;person boy 6 0 0;");
     x.halves(1);
@@ -86,6 +91,7 @@ public final class AsksTest {
     asked(x, 1, 1, 2, 21, 20);
   }
 
+  /** Promise 24, "(where that is refused it stays)"; promise 25, "NONE." */
   private static void traces() {
     ErrandLanes x = Checks.on(ALL);
     x.ask(4, 0);
@@ -100,6 +106,7 @@ public final class AsksTest {
     C.due("it stays", x.trace(2), 10);
   }
 
+  /** Promise 24, "An ASK (0, 1) of one. BAD." */
   private static void refusals() {
     ErrandLanes x = Checks.on(ALL);
     C.due("ask(-1, 0)", x.ask(-1, 0), Checks.BAD);

@@ -2,6 +2,7 @@
 public final class CountsTest {
   private static final Checks C = new Checks("CountsTest");
 
+  /** Promise 26, each number of "How many", and "BAD." */
   public static void main(String[] args) {
     ErrandLanes x = new ErrandLanes();
     counts(x, 0, 0, 0, 0, 0, 0);

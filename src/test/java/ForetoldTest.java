@@ -20,6 +20,7 @@ public final class ForetoldTest {
     C.end();
   }
 
+  /** Terms 3, "AHEAD by n HALVES (0 to 120)"; promise 13, "BAD." */
   private static void aheads() {
     ErrandLanes x = Checks.on("path 2 0;" + TWO);
     C.due("spot now", x.ahead(0, 0, 0), 0);
@@ -40,6 +41,7 @@ public final class ForetoldTest {
     }
   }
 
+  /** Terms 3, "(0: it is; 120 at most; NONE); who has it then."; promise 14, "BAD." */
   private static void dones() {
     ErrandLanes x = Checks.on("path 2 0;person fat 0 1 4;person boy 4 0 0;person cow 2 0 2;");
     C.due("behind 4", x.done(0, 0), 4);
@@ -66,6 +68,7 @@ public final class ForetoldTest {
     C.due("from 3 down to 0 and up to 6", z.done(0, 0), 9);
   }
 
+  /** Terms 3, "SECRET of an ERRAND in n HALVES (0 to 120)"; promise 15, "BAD." */
   private static void secrets() {
     ErrandLanes x = Checks.on("path 2 0;" + TWO);
     C.due("now", x.secret(0, 0), 1);
@@ -83,6 +86,7 @@ public final class ForetoldTest {
     C.due("none changes", y.secret(1, 120), 2);
   }
 
+  /** Promise 16, "the set (1); NONE. BAD". */
   private static void soons() {
     ErrandLanes x = Checks.on("path 2 1;" + TWO);
     C.due("soonest: 0 up, 1 down", x.soon(0), 4);
@@ -103,6 +107,7 @@ public final class ForetoldTest {
     C.due("by nothing", z.soon(1), Checks.NONE);
   }
 
+  /** Terms 3, "By a set of PEOPLE, no cows (bits)". */
   private static void soonest() {
     ErrandLanes x = Checks.on("path 5 1;person cow 0 0 0;person fat 4 0 6;person boy 6 1 2;");
     C.due("1 up in 2, 2 down in 4", x.soon(0), 4);
@@ -125,6 +130,7 @@ public final class ForetoldTest {
     C.due("by {1}, though {1, 2} does it too", y.soon(1), 2);
   }
 
+  /** Terms 3, "none of told PEOPLE has a told ERRAND now, or behind one of n HALVES". */
   private static void cleans() {
     ErrandLanes x = Checks.on("path 4 0;person fat 2 1 8;person boy 6 0 0;person cow 4 0 0;");
     C.due("1 never has 0, in 2: not by {0}", x.clean(0, 2, 2, 0), 3);
@@ -144,6 +150,7 @@ public final class ForetoldTest {
     cleansRefused(x);
   }
 
+  /** Promise 17, "CLEAN of PEOPLE (bits)", "BAD." */
   private static void cleansRefused(ErrandLanes x) {
     C.due("errand 3", x.clean(3, 0, 0, 0), Checks.BAD);
     C.due("errand -1", x.clean(-1, 0, 0, 0), Checks.BAD);
@@ -157,6 +164,7 @@ public final class ForetoldTest {
     C.due("what -1", x.clean(0, 0, 0, -1), Checks.BAD);
   }
 
+  /** Terms 0, "fractions, told as two numbers in lowest terms"; promise 18, "BAD." */
   private static void handsInTheMean() {
     ErrandLanes x = Checks.on("path 4 0;person fat 2 1 8;person boy 6 0 0;person cow 4 0 0;");
     C.due("(1 + 2 + 1 + 1) by 4, above", x.hands(0, 2, 0), 5);
@@ -176,6 +184,7 @@ public final class ForetoldTest {
     C.due("errand -1", x.hands(-1, 1, 0), Checks.BAD);
   }
 
+  /** Promise 19, "as many ITEMS as there are PEOPLE, of a ROW from its beginning on". */
   private static void begans() {
     ErrandLanes x = Checks.on("path 4 0;person fat 2 1 8;person boy 6 0 0;person cow 4 0 0;");
     Checks.fill(x, 0, 0, 1, 0, 2, 99);
@@ -205,6 +214,7 @@ public final class ForetoldTest {
     C.due("which is 0", z.began(0, 120, 1), 0);
   }
 
+  /** Promise 19, "NULL; PLACE; then BAD: an ITEM that is no ERRAND." */
   private static void begansRefused() {
     ErrandLanes x = Checks.on("path 4 0;person fat 2 1 8;person boy 6 0 0;");
     Checks.fill(x, 0, 0, 0, 1);
@@ -246,6 +256,7 @@ public final class ForetoldTest {
     C.due("by {0}, and by {0, 1}", y.began(0, 1, 1), 1);
   }
 
+  /** Terms 3, "FORETOLD (nothing changes". */
   private static void nothingChanges() {
     ErrandLanes x = Checks.on("path 4 0;person fat 2 1 8;person boy 6 0 0;person cow 4 1 0;");
     Checks.fill(x, 0, 0, 0, 1, 2);

@@ -28,6 +28,7 @@ public final class HalvesTest {
     C.due("his spot, " + of, x.errand(errand, 3), spot);
   }
 
+  /** Terms 2, "0: they change ERRANDS, and both turn round;". */
   private static void lawOfTurning() {
     ErrandLanes x = Checks.on("path 2 0;" + TWO);
     stands(x, 0, 0, 1, 0);
@@ -46,6 +47,7 @@ public final class HalvesTest {
     stands(x, 1, 2, 1, 1);
   }
 
+  /** Terms 2, "1: nothing;". */
   private static void lawOfPassing() {
     ErrandLanes x = Checks.on("path 2 1;" + TWO);
     C.due("halves(2)", x.halves(2), 0);
@@ -56,6 +58,7 @@ public final class HalvesTest {
     stands(x, 1, 0, 0, 1);
   }
 
+  /** Terms 2, "2: they change ERRANDS." */
   private static void lawOfChanging() {
     ErrandLanes x = Checks.on("path 2 2;" + TWO);
     C.due("halves(2)", x.halves(2), 0);
@@ -69,6 +72,7 @@ public final class HalvesTest {
     stands(x, 1, 2, 1, 1);
   }
 
+  /** Terms 2, "who would come beyond an end turns round first." */
   private static void ends() {
     ErrandLanes x = Checks.on("path 2 0;person fat 0 0 2;person boy 4 1 4;");
     C.due("one is at his goal at once", x.errand(1, 1), 1);
@@ -107,6 +111,7 @@ public final class HalvesTest {
     stands(y, 2, 4, 1, 1);
   }
 
+  /** Terms 2, "(A cow has its ERRAND for ever.)" */
   private static void cows() {
     ErrandLanes x = Checks.on("path 3 0;person cow 2 1 4;person fat 0 1 6;person cow 6 0 6;");
     C.due("a cow at its goal", x.count(4), 1);
@@ -121,6 +126,7 @@ public final class HalvesTest {
     stands(x, 2, 6, 0, 2);
   }
 
+  /** Terms 2, "An ERRAND is done once", "it is carried on, and changed, all the same." */
   private static void doneOnce() {
     ErrandLanes x = Checks.on("path 2 1;person fat 0 1 0;person monk 2 1 4;");
     C.due("done at first", x.count(4), 1);
@@ -132,6 +138,7 @@ public final class HalvesTest {
     C.due("goal", x.errand(1, 0), 4);
   }
 
+  /** Terms 2, "HALVES go by (9999 at most)"; promise 9, "FULL: there would be more than 9999." */
   private static void limits() {
     ErrandLanes x = Checks.on("path 2 0;" + TWO);
     for (int i = 0; i < 166; i++) {
@@ -150,6 +157,7 @@ public final class HalvesTest {
     C.due("room for one", x.halves(1), 0);
   }
 
+  /** Terms 2, "the latest 24 of them can be undone, the latest first."; promise 10, "STATE: none." */
   private static void undos() {
     ErrandLanes x = Checks.on("path 4 0;person fat 0 1 8;person boy 6 0 8;person monk 8 0 8;");
     C.due("undo() at first", x.undo(), Checks.STATE);
@@ -190,6 +198,7 @@ public final class HalvesTest {
     C.due("done anew", x.halves(1), 1);
   }
 
+  /** Promise 9, "n HALVES (1 to 60)"; promises 11 and 12, "BAD." */
   private static void refusals() {
     ErrandLanes x = Checks.on("path 2 0;" + TWO);
     C.due("halves(0)", x.halves(0), Checks.BAD);

@@ -9,6 +9,7 @@ public final class ImagesTest {
     C.end();
   }
 
+  /** Promise 21, "The PATH is as an IMAGE kept it (no HALF can be undone then): 1." */
   private static void keptAndRestored() {
     ErrandLanes x = Checks.on("path 4 0;person fat 2 1 8;person boy 6 0 0;");
     x.halves(2);
@@ -36,6 +37,7 @@ public final class ImagesTest {
     C.due("the image's halves", x.count(2), 2);
   }
 
+  /** Promise 20, "An IMAGE (0, 1) is kept of the PATH: 1." */
   private static void twoImages() {
     ErrandLanes x = Checks.on("path 4 0;person fat 2 1 8;person boy 6 0 0;");
     x.image(1);
@@ -57,6 +59,7 @@ public final class ImagesTest {
     C.due("its spots", x.person(0, 0), 18);
   }
 
+  /** Promises 20 and 21, "BAD", "STATE: none was kept." */
   private static void refusals() {
     ErrandLanes x = Checks.on("path 4 0;person fat 2 1 8;");
     C.due("image(-1)", x.image(-1), Checks.BAD);

@@ -18,6 +18,7 @@ public final class NewObjectTest {
     c.end();
   }
 
+  /** Promise 1, "No PATH."; promises 9, 16, 19, "STATE: no PATH (ahead of BAD)". */
   private static void withoutPath(Checks c, ErrandLanes x) {
     c.due("halves(1)", x.halves(1), Checks.STATE);
     c.due("halves(0): STATE is ahead of BAD", x.halves(0), Checks.STATE);
@@ -42,6 +43,7 @@ public final class NewObjectTest {
     c.due("ask(0, 0)", x.ask(0, 0), Checks.BAD);
   }
 
+  /** The public face, "NONE = -1000000, BAD = -1000001, STATE = -1000002, FULL = -1000003". */
   private static void constants(Checks c) {
     c.due("NONE", ErrandLanes.NONE, -1000000);
     c.due("BAD", ErrandLanes.BAD, -1000001);

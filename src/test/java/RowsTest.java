@@ -14,6 +14,7 @@ public final class RowsTest {
     C.end();
   }
 
+  /** Promise 2, "in place of what is there", "BAD: ROW, LANE, n above 40; SIZE."; terms 1, "ITEMS, 0 at first". */
   private static void rows() {
     ErrandLanes x = new ErrandLanes();
     C.due("row of 40", x.row(0, 0, 40), 40);
@@ -57,6 +58,7 @@ public final class RowsTest {
     return x.began(6, 0, 0) == 1 ? 0 : Checks.BAD;
   }
 
+  /** Promise 3, "its lowest bits, as many as the LANE has (read with their sign)", "BAD: ROW; NULL; PLACE." */
   private static void sets() {
     ErrandLanes x = new ErrandLanes();
     x.row(0, 0, 3);
@@ -85,6 +87,7 @@ public final class RowsTest {
     C.due("no item at all", x.set(4, 0, 0), Checks.PLACE);
   }
 
+  /** Promise 4, "as they were ahead: n." */
   private static void copies() {
     ErrandLanes x = Checks.on("path 9 1;person cow 0 0 0;person cow 2 0 0;person cow 4 0 0;person cow 6 0 0;");
     Checks.fill(x, 0, 2, 0, 1, 2, 3, 9);
@@ -105,6 +108,7 @@ public final class RowsTest {
     C.due("another has it", x.began(1, 0, 0), 0);
   }
 
+  /** Promise 4, "BAD: ROWS; NULL; STORE; PLACE (i, j, n below 0, or beyond an end)." */
   private static void copiesRefused() {
     ErrandLanes x = new ErrandLanes();
     x.row(0, 0, 5);
@@ -133,6 +137,7 @@ public final class RowsTest {
     C.due("to the ends", x.copy(0, 2, 1, 0, 3), 3);
   }
 
+  /** Promise 5, "how many ITEMS it had. BAD; NULL." */
   private static void drops() {
     ErrandLanes x = new ErrandLanes();
     x.row(0, 1, 12);
@@ -147,6 +152,7 @@ public final class RowsTest {
     C.due("set", x.set(0, 0, 1), Checks.NULL);
   }
 
+  /** Promise 27, "that was not BAD, STATE, FULL: the number of its FINDING; 0: it had none, or there was none." */
   private static void statuses() {
     ErrandLanes x = new ErrandLanes();
     x.drop(2);

@@ -33,6 +33,7 @@ public final class TextsTest {
     C.due("tape behind '" + text + "'", x.count(5), 0);
   }
 
+  /** Promise 6, "The lowest n bytes of w (1 to 8), the highest of them first", "BAD: n". */
   private static void feeds() {
     ErrandLanes x = new ErrandLanes();
     C.due("feed(.., 0)", x.feed(0, 0), Checks.BAD);
@@ -49,6 +50,7 @@ public final class TextsTest {
     C.due("bytes of all ones are no tokens", x.path(), -1000100);
   }
 
+  /** Promise 6, "FULL: none comes."; terms 1, "THE TAPE has at most 400 bytes". */
   private static void tapeFull() {
     ErrandLanes x = new ErrandLanes();
     C.due("396 blanks", Checks.feed(x, " ".repeat(396)), 396);
@@ -63,6 +65,7 @@ public final class TextsTest {
     C.due("a path at the very end", Checks.read(x, text), 0);
   }
 
+  /** Terms 1, "path: path { person }", "NUMBERS (figures, 3 at most)", "(none is needed where one ends without)". */
   private static void texts() {
     fits("path 2 0;", 0);
     fits("path 30 2;", 0);
@@ -77,6 +80,7 @@ public final class TextsTest {
     fits("path 002 000;", 0);
   }
 
+  /** Terms 1, "1 it cannot stand there, or is none (a run of four figures or more, at its first". */
   private static void tokens() {
     faulty("Path 2 0;", 0, 1);
     faulty("paths 2 0;", 0, 1);
@@ -106,6 +110,7 @@ public final class TextsTest {
     faulty("path 2 0; 5", 10, 1);
   }
 
+  /** Terms 1, "(2 to 30 yards", "0 to 2)", "2 a NUMBER that is not as told". */
   private static void lanes() {
     faulty("path 1 0;", 5, 2);
     faulty("path 0 0;", 5, 2);
@@ -121,6 +126,7 @@ public final class TextsTest {
     faulty("path 2 0 person fat 0 0 0;", 9, 1);
   }
 
+  /** Terms 1, "an even SPOT, each once; 0 down, 1 up; an even SPOT", "3 a person more than there is room for (its word)." */
   private static void people() {
     faulty(HEAD + "persons fat 0 0 0;", 9, 1);
     faulty(HEAD + "fat 0 0 0;", 9, 1);
@@ -152,6 +158,7 @@ public final class TextsTest {
     faulty("path 2 0;person fat 0 0 0;person fat 2 0 0;person fat 4 0 0;person fat 6 0 0;", 71, 2);
   }
 
+  /** Terms 1, "the end: how many bytes there are". */
   private static void ends() {
     String text = "path 9 0;person fat 0 0 0";
     faulty("", 0, 1);
@@ -215,6 +222,7 @@ public final class TextsTest {
     C.due("'path 2 0;'", Checks.read(x, "path 2 0;"), 0);
   }
 
+  /** Promise 8, "The number of the latest FAULT; 0 before one." */
   private static void latest() {
     ErrandLanes x = new ErrandLanes();
     Checks.read(x, "path 1 0;");
