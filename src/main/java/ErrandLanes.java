@@ -35,8 +35,7 @@ public final class ErrandLanes {
   private static final int DEEPEST = 16;
 
   private final Row[] rows = new Row[ROWS];
-  private final Tape tape = new Tape();
-  private final Reader reader = new Reader(tape);
+  private final Reader reader = new Reader();
   private final Path now = new Path();
   private final Path draft = new Path();
   private final Path trial = new Path();
@@ -129,6 +128,7 @@ public final class ErrandLanes {
     if (n < 1 || n > 8) {
       return BAD;
     }
+    Tape tape = reader.tape;
     if (tape.length + n > TAPE) {
       return FULL;
     }
@@ -141,7 +141,7 @@ public final class ErrandLanes {
   /** Promise 7. */
   public int path() {
     boolean isPath = reader.reads(draft);
-    tape.length = 0;
+    reader.tape.length = 0;
     if (!isPath) {
       latestFault = reader.fault;
       return FAULTY - reader.first;
@@ -407,7 +407,7 @@ public final class ErrandLanes {
       case 4:
         return Integer.bitCount(now.finished);
       case 5:
-        return tape.length;
+        return reader.tape.length;
       default:
         return BAD;
     }
@@ -817,22 +817,18 @@ public final class ErrandLanes {
     }
   }
 
-  /** Reads the tape, a token at a time. */
+  /** Has the tape, and reads it, a token at a time. */
   private static final class Reader {
     static final int END = 0, NAME = 1, NUMBER = 2, SIGN = 3, NO_TOKEN = 4;
     static final int LONGEST_NUMBER = 3;
 
-    final Tape tape;
+    final Tape tape = new Tape();
     int at = 0;
     /** The first byte of the token that was read last: its fault's place. */
     int first = 0;
     int type = END;
     int value = 0;
     int fault = 0;
-
-    Reader(Tape tape) {
-      this.tape = tape;
-    }
 
     /** Whether the tape tells a path, which is then as it begins; else there is a fault. */
     boolean reads(Path path) {

@@ -47,6 +47,7 @@ public final class RulesTest {
     bars("rule 9: a loop without an end", code, "while \\(true\\)|for \\(;[^;]*true;|for \\(; ?;");
     bars("rule 10: texts joined by +", code, "\"\\s*\\+|\\+\\s*\"");
     bars("rule 11: eight parameters", code, "\\w+\\((?:\\w+(?:\\[\\])* \\w+, ){7}\\w");
+    bars("rule 12: a part of the object handed on as it is made", code, "\\bnew [A-Z]\\w*\\([^)]");
   }
 
   private static void library(String code) {
